@@ -215,6 +215,10 @@ public final class PromisesTest {
         same("explore", "1", explore(end, 2));
         // past the end there is one place only: 3 places of thread 0 that can come, 2 of thread 1
         counts(end, 4, 6, 1, 2, 3);
+        // whether skipped or not, thread 0 ends at the same place with the same register
+        OutcomeDesk meet = desk(new int[][] {{0, 2, 0, 0}, {0, 6, 3, 0}, {0, 2, 1, 0}, {1, 0, 0, 1}});
+        same("explore", "1", explore(meet, 0));
+        counts(meet, 4, 8, 1, 2, 3);
         OutcomeDesk waiting = desk(new int[][] {{0, 0, 0, 1}, {0, 0, 0, 2}, {0, 6, 1, 0}, {0, 3, 0, 0}, {0, 2, 0, 0}});
         same("explore", "1", explore(waiting, 1));
         same("a skip does not wait", "[0, 0, 0, 0, 4, 4]", way(waiting, 0));

@@ -43,7 +43,8 @@ public final class ReferenceTest {
                 int thread = random.nextInt(12) == 0 ? random.nextInt(7) - 2 : random.nextInt(2 + seed % 3);
                 int number = random.nextInt(20) == 0 ? random.nextInt(12) - 3 : kind(random, seed);
                 int a = number == 3 ? 0 : random.nextInt(20) == 0 ? random.nextInt(8) - 2 : random.nextInt(1 + random.nextInt(4));
-                int b = number == 3 ? 0 : random.nextInt(20) == 0 ? random.nextInt(8) - 2 : random.nextInt(4);
+                // few registers and values let different ways meet in the same state
+                int b = number == 3 ? 0 : random.nextInt(20) == 0 ? random.nextInt(8) - 2 : random.nextInt(seed % 4 == 0 ? 2 : 4);
                 same(seed, "add", model.add(thread, number, a, b), Boolean.toString(desk.add(thread, number, a, b)));
             }
             for (int i = 0; i < 3; i++) {
