@@ -14,6 +14,7 @@ public final class FaceTest {
     private static int wrong = 0;
 
     public static void main(String[] args) {
+        Checks.endInTime();
         members();
         for (int seed = 0; seed < 200; seed++) {
             anyCalls(new Random(seed), seed);

@@ -1,16 +1,9 @@
-import java.util.Arrays;
-import java.util.NoSuchElementException;
-
 /** Each promise by hand: ordinary inputs, the edges that the document names, wrong inputs. */
-public final class PromisesTest {
-    private static final String ILLEGAL_ARGUMENT = "IllegalArgumentException";
-    private static final String ILLEGAL_STATE = "IllegalStateException";
-    private static final String NO_SUCH_ELEMENT = "NoSuchElementException";
+public final class PromisesTest extends Checks {
     private static final int[] ODD = {Integer.MIN_VALUE, -4, -2, -1, 4, 7, 100, Integer.MAX_VALUE};
 
-    private static int wrong = 0;
-
     public static void main(String[] args) {
+        endInTime();
         aNewObject();
         addTakesWhatThereIs();
         addRefusesWhatThereIsNot();
@@ -29,11 +22,7 @@ public final class PromisesTest {
         leastOfShortestWays();
         buffersKeepTheirOrder();
         wrongQuestions();
-        if (wrong != 0) {
-            System.out.println(wrong + " answers are wrong");
-            System.exit(1);
-        }
-        System.out.println("all promises hold");
+        finish(1);
     }
 
     private static void aNewObject() {
@@ -238,10 +227,8 @@ public final class PromisesTest {
     }
 
     private static void exploreAtTheLimit() {
-        int[][] most = {{0, 0, 0, 3}, {1, 2, 0, 3}, {2, 5, 0, 1}, {3, 2, 2, 0}, {0, 0, 0, 3}, {1, 0, 2, 3},
-            {2, 0, 1, 2}, {3, 2, 3, 2}, {2, 0, 2, 1}, {3, 2, 0, 0}, {2, 0, 0, 2}, {3, 0, 2, 3}};
-        int[][] tooMany = {{0, 5, 2, 2}, {1, 5, 2, 3}, {2, 2, 3, 1}, {2, 0, 3, 2}, {0, 0, 0, 3}, {1, 0, 3, 0},
-            {2, 0, 0, 0}, {3, 0, 2, 3}, {2, 1, 1, 2}, {1, 0, 1, 2}, {2, 0, 3, 1}, {3, 2, 2, 2}};
+        int[][] most = Programs.STATES_20000[2];
+        int[][] tooMany = Programs.STATES_20001[2];
         OutcomeDesk desk = desk(tooMany);
         same("20001 states", ILLEGAL_STATE, explore(desk, 2));
         counts(desk, 12, 0, 0, 0, 0);
@@ -260,26 +247,6 @@ public final class PromisesTest {
         same("a small one behind it", "1", explore(desk, 1));
         counts(desk, 1, 3, 1, 0, 2);
         same("it is whole", "0000000000000000" + "3000 [0, 4]", told(desk, 0));
-    }
-
-    private static void refill(OutcomeDesk desk, int[][] rows) {
-        for (int thread = 0; thread < 4; thread++) {
-            desk.clear(thread);
-        }
-        for (int[] row : rows) {
-            same("add " + Arrays.toString(row), true, desk.add(row[0], row[1], row[2], row[3]));
-        }
-    }
-
-    private static String allTold(OutcomeDesk desk) {
-        StringBuilder text = new StringBuilder();
-        for (int what = 1; what <= 4; what++) {
-            text.append(desk.count(what)).append(' ');
-        }
-        for (int k = 0; k < desk.count(2); k++) {
-            text.append(told(desk, k)).append('\n');
-        }
-        return text.toString();
     }
 
     private static void toldStaysUntilTheNext() {
@@ -365,68 +332,5 @@ public final class PromisesTest {
         same("last move", "4", move(desk, 0, 2));
         same("a move behind the last", NO_SUCH_ELEMENT, move(desk, 0, 3));
         same("a move before the first", NO_SUCH_ELEMENT, move(desk, 0, -1));
-    }
-
-    private static OutcomeDesk desk(int[][] rows) {
-        OutcomeDesk desk = new OutcomeDesk();
-        refill(desk, rows);
-        return desk;
-    }
-
-    private static void counts(OutcomeDesk desk, int... due) {
-        for (int what = 0; what < due.length; what++) {
-            same("count(" + what + ")", due[what], desk.count(what));
-        }
-    }
-
-    /** The registers and words of an outcome in one text, then its way. */
-    private static String told(OutcomeDesk desk, int k) {
-        StringBuilder text = new StringBuilder();
-        for (int what = 0; what < 20; what++) {
-            text.append(outcome(desk, k, what));
-        }
-        return text.append(' ').append(way(desk, k)).toString();
-    }
-
-    private static String way(OutcomeDesk desk, int k) {
-        int[] moves = new int[desk.outcome(k, 20)];
-        for (int i = 0; i < moves.length; i++) {
-            moves[i] = desk.move(k, i);
-        }
-        same("the end of the way", NO_SUCH_ELEMENT, move(desk, k, moves.length));
-        return Arrays.toString(moves);
-    }
-
-    private static String explore(OutcomeDesk desk, int model) {
-        try {
-            return Integer.toString(desk.explore(model));
-        } catch (IllegalArgumentException e) {
-            return ILLEGAL_ARGUMENT;
-        } catch (IllegalStateException e) {
-            return ILLEGAL_STATE;
-        }
-    }
-
-    private static String outcome(OutcomeDesk desk, int k, int what) {
-        try {
-            return Integer.toString(desk.outcome(k, what));
-        } catch (NoSuchElementException e) {
-            return NO_SUCH_ELEMENT;
-        }
-    }
-
-    private static String move(OutcomeDesk desk, int k, int i) {
-        try {
-            return Integer.toString(desk.move(k, i));
-        } catch (NoSuchElementException e) {
-            return NO_SUCH_ELEMENT;
-        }
-    }
-
-    private static void same(String what, Object due, Object got) {
-        if (!due.toString().equals(got.toString())) {
-            wrong++;
-            System.out.println(what + ": " + got + ", due is " + due);
-        }
     }
 }

@@ -1,39 +1,25 @@
-import java.util.ArrayDeque;
-import java.util.ArrayList;
-import java.util.Collections;
-import java.util.HashMap;
-import java.util.LinkedHashMap;
-import java.util.List;
-import java.util.Map;
-import java.util.NoSuchElementException;
 import java.util.Random;
-import java.util.TreeMap;
 
-/**
- * Runs of calls by a fixed seed, each answer compared with that of a slow
- * model that follows the document's words and shares nothing with the class.
- */
-public final class ReferenceTest {
-    private static final String ILLEGAL_ARGUMENT = "throws.IllegalArgumentException";
-    private static final String ILLEGAL_STATE = "throws.IllegalStateException";
-    private static final String NO_SUCH_ELEMENT = "throws.NoSuchElementException";
-
-    private static int wrong = 0;
-    private static long compared = 0;
+/** Runs of calls by a fixed seed, and programs of chosen sizes: each answer compared with that of a slow model. */
+public final class ReferenceTest extends Checks {
+    private static int compared = 0;
 
     public static void main(String[] args) {
+        endInTime();
         for (int seed = 0; seed < 500; seed++) {
             run(new Random(seed), seed, 4 + seed % 9);
         }
-        System.out.println(compared + " answers compared, " + wrong + " wrong");
-        if (wrong != 0) {
-            System.exit(1);
+        for (int seed = 0; seed < 60; seed++) {
+            runOf512(new Random(seed), seed);
         }
+        chosenSizes();
+        System.out.println(compared + " answers compared");
+        finish(compared);
     }
 
     private static void run(Random random, int seed, int most) {
         OutcomeDesk desk = new OutcomeDesk();
-        Model model = new Model();
+        Reference model = new Reference();
         for (int round = 0; round < 3; round++) {
             if (random.nextInt(3) == 0) {
                 int thread = random.nextInt(6) - 1;
@@ -41,11 +27,7 @@ public final class ReferenceTest {
             }
             for (int i = 0; i < most; i++) {
                 int thread = random.nextInt(12) == 0 ? random.nextInt(7) - 2 : random.nextInt(2 + seed % 3);
-                int number = random.nextInt(20) == 0 ? random.nextInt(12) - 3 : kind(random, seed);
-                int a = number == 3 ? 0 : random.nextInt(20) == 0 ? random.nextInt(8) - 2 : random.nextInt(1 + random.nextInt(4));
-                // few registers and values let different ways meet in the same state
-                int b = number == 3 ? 0 : random.nextInt(20) == 0 ? random.nextInt(8) - 2 : random.nextInt(seed % 4 == 0 ? 2 : 4);
-                same(seed, "add", model.add(thread, number, a, b), Boolean.toString(desk.add(thread, number, a, b)));
+                addOne(random, seed, thread, desk, model);
             }
             for (int i = 0; i < 3; i++) {
                 int which = random.nextInt(10) == 0 ? random.nextInt(9) - 4 : random.nextInt(3);
@@ -53,6 +35,14 @@ public final class ReferenceTest {
                 compareTold(seed, random, desk, model);
             }
         }
+    }
+
+    private static void addOne(Random random, int seed, int thread, OutcomeDesk desk, Reference model) {
+        int number = random.nextInt(20) == 0 ? random.nextInt(12) - 3 : kind(random, seed);
+        int a = number == 3 ? 0 : random.nextInt(20) == 0 ? random.nextInt(8) - 2 : random.nextInt(1 + random.nextInt(4));
+        // few registers and values let different ways meet in the same state
+        int b = number == 3 ? 0 : random.nextInt(20) == 0 ? random.nextInt(8) - 2 : random.nextInt(seed % 4 == 0 ? 2 : 4);
+        same(seed, "add", model.add(thread, number, a, b), Boolean.toString(desk.add(thread, number, a, b)));
     }
 
     /** Some seeds have many stores, some many skips, so that each meets its edges often. */
@@ -64,7 +54,7 @@ public final class ReferenceTest {
         return new int[] {0, 1, 6, 2, 5}[seed % 5];
     }
 
-    private static void compareTold(int seed, Random random, OutcomeDesk desk, Model model) {
+    private static void compareTold(int seed, Random random, OutcomeDesk desk, Reference model) {
         for (int what = -2; what <= 7; what++) {
             same(seed, "count " + what, model.count(what), Integer.toString(desk.count(what)));
         }
@@ -84,350 +74,63 @@ public final class ReferenceTest {
         }
     }
 
-    private static String explore(OutcomeDesk desk, int model) {
-        try {
-            return Integer.toString(desk.explore(model));
-        } catch (IllegalArgumentException e) {
-            return ILLEGAL_ARGUMENT;
-        } catch (IllegalStateException e) {
-            return ILLEGAL_STATE;
+    /** As many calls as an object is used for, in any order: each of them is compared, the last one too. */
+    private static void runOf512(Random random, int seed) {
+        OutcomeDesk desk = new OutcomeDesk();
+        Reference model = new Reference();
+        for (int call = 1; call <= 512; call++) {
+            int kind = random.nextInt(12);
+            int a = random.nextInt(8) - 2;
+            int b = random.nextInt(24) - 2;
+            if (kind < 3) {
+                addOne(random, seed, random.nextInt(4), desk, model);
+            } else if (kind == 3) {
+                same(seed, "clear " + a, model.clear(a), Integer.toString(desk.clear(a)));
+            } else if (kind == 4) {
+                same(seed, "explore " + a, model.explore(a), explore(desk, a));
+            } else if (kind < 7) {
+                same(seed, "count " + a, model.count(a), Integer.toString(desk.count(a)));
+            } else if (kind == 7) {
+                same(seed, "may " + b + " " + a, model.may(b, a), Integer.toString(desk.may(b, a)));
+            } else if (kind < 10) {
+                same(seed, "outcome " + a + " " + b, model.outcome(a, b), outcome(desk, a, b));
+            } else {
+                same(seed, "move " + a + " " + b, model.move(a, b), move(desk, a, b));
+            }
         }
     }
 
-    private static String outcome(OutcomeDesk desk, int k, int what) {
-        try {
-            return Integer.toString(desk.outcome(k, what));
-        } catch (NoSuchElementException e) {
-            return NO_SUCH_ELEMENT;
+    /** Exactly as many states as there may be and one more, and the sizes at which the rows of the class grow. */
+    private static void chosenSizes() {
+        OutcomeDesk desk = new OutcomeDesk();
+        Reference model = new Reference();
+        for (int which = 0; which < 3; which++) {
+            exploreChosen(desk, model, Programs.STATES_20000[which], which, 20000);
+            exploreChosen(desk, model, Programs.STATES_20001[which], which, 20000);
+        }
+        for (int i = 0; i < Programs.SIZES.length; i++) {
+            exploreChosen(desk, model, Programs.WHERE_ROWS_GROW[i], 2, Programs.SIZES[i]);
+            exploreChosen(new OutcomeDesk(), new Reference(), Programs.WHERE_ROWS_GROW[i], 2, Programs.SIZES[i]);
         }
     }
 
-    private static String move(OutcomeDesk desk, int k, int i) {
-        try {
-            return Integer.toString(desk.move(k, i));
-        } catch (NoSuchElementException e) {
-            return NO_SUCH_ELEMENT;
+    private static void exploreChosen(OutcomeDesk desk, Reference model, int[][] rows, int which, int states) {
+        refill(desk, rows);
+        for (int thread = 0; thread < 4; thread++) {
+            model.clear(thread);
         }
+        for (int[] row : rows) {
+            model.add(row[0], row[1], row[2], row[3]);
+        }
+        same(-states, "explore " + which, model.explore(which), explore(desk, which));
+        same("states", states, desk.count(1));
+        compareTold(-states, new Random(states), desk, model);
     }
 
     private static void same(int seed, String call, String due, String got) {
         compared++;
         if (!due.equals(got)) {
-            wrong++;
-            if (wrong <= 20) {
-                System.out.println("seed " + seed + ": " + call + " answered " + got + ", due is " + due);
-            }
-        }
-    }
-
-    /** A state with everything in it by itself; its text is what it is known by. */
-    private static final class Scene {
-        final int[] places = new int[4];
-        final List<List<int[]>> buffers = new ArrayList<>();
-        final int[] values = new int[20];
-
-        Scene() {
-            for (int t = 0; t < 4; t++) {
-                buffers.add(new ArrayList<>());
-            }
-        }
-
-        Scene copy() {
-            Scene other = new Scene();
-            System.arraycopy(places, 0, other.places, 0, 4);
-            System.arraycopy(values, 0, other.values, 0, 20);
-            for (int t = 0; t < 4; t++) {
-                other.buffers.get(t).addAll(buffers.get(t));
-            }
-            return other;
-        }
-
-        String text() {
-            StringBuilder text = new StringBuilder();
-            for (int value : values) {
-                text.append(value);
-            }
-            for (int t = 0; t < 4; t++) {
-                text.append('/').append(places[t]).append(':');
-                for (int[] store : buffers.get(t)) {
-                    text.append(store[0]).append('=').append(store[1]).append(';');
-                }
-            }
-            return text.toString();
-        }
-    }
-
-    private static final class Model {
-        private final List<List<int[]>> threads = new ArrayList<>();
-        private Map<String, Scene> scenes = new LinkedHashMap<>();
-        private Map<String, Integer> distances = new HashMap<>();
-        private Map<String, TreeMap<Integer, String>> edges = new HashMap<>();
-        private TreeMap<String, String> outcomes = new TreeMap<>();
-        private List<List<Integer>> ways = new ArrayList<>();
-
-        Model() {
-            for (int t = 0; t < 4; t++) {
-                threads.add(new ArrayList<>());
-            }
-        }
-
-        private int total() {
-            int total = 0;
-            for (List<int[]> thread : threads) {
-                total += thread.size();
-            }
-            return total;
-        }
-
-        private static boolean among(int least, int x, int most) {
-            return x >= least && x <= most;
-        }
-
-        String add(int thread, int number, int a, int b) {
-            boolean known;
-            switch (number) {
-                case 0: case 1: case 2: case 4: case 5:
-                    known = among(0, a, 3) && among(0, b, 3);
-                    break;
-                case 3:
-                    known = a == 0 && b == 0;
-                    break;
-                case 6:
-                    known = among(1, a, 3) && among(0, b, 3);
-                    break;
-                default:
-                    known = false;
-            }
-            if (!known || !among(0, thread, 3) || threads.get(thread).size() == 6 || total() == 12) {
-                return "false";
-            }
-            threads.get(thread).add(new int[] {number, a, b});
-            return "true";
-        }
-
-        String clear(int thread) {
-            if (!among(0, thread, 3)) {
-                return "-1";
-            }
-            int had = threads.get(thread).size();
-            threads.get(thread).clear();
-            return Integer.toString(had);
-        }
-
-        /** The state behind a move, or null if it can't be made. */
-        private Scene after(Scene scene, int move, int model) {
-            Scene next = scene.copy();
-            if (move >= 4) {
-                int t = (move - 4) / 4;
-                List<int[]> buffer = next.buffers.get(t);
-                for (int i = 0; i < buffer.size(); i++) {
-                    if (buffer.get(i)[0] == (move - 4) % 4) {
-                        if (model == 1 && i > 0) {
-                            return null;
-                        }
-                        int[] store = buffer.remove(i);
-                        next.values[16 + store[0]] = store[1];
-                        return next;
-                    }
-                }
-                return null;
-            }
-            List<int[]> thread = threads.get(move);
-            if (scene.places[move] == thread.size()) {
-                return null;
-            }
-            int[] instruction = thread.get(next.places[move]++);
-            return perform(next, move, instruction, model) ? next : null;
-        }
-
-        private boolean perform(Scene next, int t, int[] instruction, int model) {
-            List<int[]> buffer = next.buffers.get(t);
-            int word = 16 + instruction[1];
-            int register = 4 * t + instruction[2];
-            int old = next.values[Math.min(word, 19)];
-            switch (instruction[0]) {
-                case 0: case 1:
-                    int value = instruction[0] == 0 ? instruction[2] : next.values[register];
-                    if (model == 0) {
-                        next.values[word] = value;
-                        return true;
-                    }
-                    if (buffer.size() == 2) {
-                        return false;
-                    }
-                    buffer.add(new int[] {instruction[1], value});
-                    return true;
-                case 2:
-                    next.values[register] = old;
-                    for (int[] store : buffer) {
-                        if (store[0] == instruction[1]) {
-                            next.values[register] = store[1];
-                        }
-                    }
-                    return true;
-                case 3:
-                    return buffer.isEmpty();
-                case 4:
-                    next.values[word] = next.values[register];
-                    next.values[register] = old;
-                    return buffer.isEmpty();
-                case 5:
-                    next.values[register] = old;
-                    next.values[word] = old == 3 ? 0 : old + 1;
-                    return buffer.isEmpty();
-                default:
-                    for (int n = 0; n < instruction[1] && next.values[register] == 0; n++) {
-                        if (next.places[t] < threads.get(t).size()) {
-                            next.places[t]++;
-                        }
-                    }
-                    return true;
-            }
-        }
-
-        String explore(int model) {
-            if (!among(0, model, 2)) {
-                return ILLEGAL_ARGUMENT;
-            }
-            Map<String, Scene> newScenes = new LinkedHashMap<>();
-            Map<String, Integer> newDistances = new HashMap<>();
-            Map<String, TreeMap<Integer, String>> newEdges = new HashMap<>();
-            ArrayDeque<String> open = new ArrayDeque<>();
-            Scene beginning = new Scene();
-            newScenes.put(beginning.text(), beginning);
-            newDistances.put(beginning.text(), 0);
-            open.add(beginning.text());
-            while (!open.isEmpty()) {
-                String text = open.remove();
-                TreeMap<Integer, String> moves = new TreeMap<>();
-                newEdges.put(text, moves);
-                for (int move = 19; move >= 0; move--) {
-                    Scene next = after(newScenes.get(text), move, model);
-                    if (next == null) {
-                        continue;
-                    }
-                    String nextText = next.text();
-                    moves.put(move, nextText);
-                    if (newScenes.putIfAbsent(nextText, next) == null) {
-                        newDistances.put(nextText, newDistances.get(text) + 1);
-                        open.add(nextText);
-                    }
-                }
-                if (newScenes.size() > 20000) {
-                    return ILLEGAL_STATE;
-                }
-            }
-            scenes = newScenes;
-            distances = newDistances;
-            edges = newEdges;
-            findOutcomes();
-            return Integer.toString(outcomes.size());
-        }
-
-        private void findOutcomes() {
-            outcomes = new TreeMap<>();
-            ways = new ArrayList<>();
-            for (Map.Entry<String, Scene> entry : scenes.entrySet()) {
-                Scene scene = entry.getValue();
-                boolean ended = true;
-                for (int t = 0; t < 4; t++) {
-                    ended &= scene.places[t] == threads.get(t).size() && scene.buffers.get(t).isEmpty();
-                }
-                if (ended) {
-                    outcomes.put(entry.getKey(), entry.getKey());
-                }
-            }
-            Map<String, List<String>> sources = sources();
-            for (String outcome : outcomes.keySet()) {
-                ways.add(wayTo(outcome, sources));
-            }
-        }
-
-        private Map<String, List<String>> sources() {
-            Map<String, List<String>> sources = new HashMap<>();
-            for (Map.Entry<String, TreeMap<Integer, String>> entry : edges.entrySet()) {
-                for (String target : entry.getValue().values()) {
-                    if (distances.get(target) == distances.get(entry.getKey()) + 1) {
-                        sources.computeIfAbsent(target, key -> new ArrayList<>()).add(entry.getKey());
-                    }
-                }
-            }
-            return sources;
-        }
-
-        /** Back from the outcome all states on shortest rows, then forward by the least move among these. */
-        private List<Integer> wayTo(String outcome, Map<String, List<String>> sources) {
-            Map<String, Boolean> onRow = new HashMap<>();
-            ArrayDeque<String> open = new ArrayDeque<>();
-            onRow.put(outcome, true);
-            open.add(outcome);
-            while (!open.isEmpty()) {
-                for (String source : sources.getOrDefault(open.remove(), Collections.emptyList())) {
-                    if (onRow.put(source, true) == null) {
-                        open.add(source);
-                    }
-                }
-            }
-            List<Integer> way = new ArrayList<>();
-            String at = new Scene().text();
-            while (!at.equals(outcome)) {
-                for (Map.Entry<Integer, String> edge : edges.get(at).entrySet()) {
-                    boolean nearer = distances.get(edge.getValue()) == distances.get(at) + 1;
-                    if (nearer && onRow.containsKey(edge.getValue())) {
-                        way.add(edge.getKey());
-                        at = edge.getValue();
-                        break;
-                    }
-                }
-            }
-            return way;
-        }
-
-        String count(int what) {
-            int answer = -1;
-            if (what == 0) {
-                answer = total();
-            } else if (what == 1) {
-                answer = scenes.size();
-            } else if (what == 2) {
-                answer = outcomes.size();
-            } else if (what == 3) {
-                answer = 0;
-                for (TreeMap<Integer, String> moves : edges.values()) {
-                    answer += moves.size() > 1 ? 1 : 0;
-                }
-            } else if (what == 4) {
-                answer = distances.isEmpty() ? 0 : Collections.max(distances.values());
-            }
-            return Integer.toString(answer);
-        }
-
-        String outcome(int k, int what) {
-            if (!among(0, k, outcomes.size() - 1) || !among(0, what, 20)) {
-                return NO_SUCH_ELEMENT;
-            }
-            if (what == 20) {
-                return Integer.toString(ways.get(k).size());
-            }
-            return new ArrayList<>(outcomes.keySet()).get(k).substring(what, what + 1);
-        }
-
-        String move(int k, int i) {
-            if (!among(0, k, outcomes.size() - 1) || !among(0, i, ways.get(k).size() - 1)) {
-                return NO_SUCH_ELEMENT;
-            }
-            return ways.get(k).get(i).toString();
-        }
-
-        String may(int what, int v) {
-            if (!among(0, what, 19)) {
-                return "-1";
-            }
-            int found = 0;
-            for (String outcome : outcomes.keySet()) {
-                found += outcome.charAt(what) - '0' == v ? 1 : 0;
-            }
-            return Integer.toString(found);
+            fault("seed " + seed + ": " + call + " answered " + got + ", due is " + due);
         }
     }
 }

@@ -2,11 +2,8 @@ import java.lang.management.ManagementFactory;
 
 /** What a run makes is counted: the rows of a desk are made once and used again. */
 public final class RoomTest {
-    private static final int[][] TWENTY_THOUSAND = {
-        {0, 0, 0, 3}, {1, 2, 0, 3}, {2, 5, 0, 1}, {3, 2, 2, 0}, {0, 0, 0, 3}, {1, 0, 2, 3},
-        {2, 0, 1, 2}, {3, 2, 3, 2}, {2, 0, 2, 1}, {3, 2, 0, 0}, {2, 0, 0, 2}, {3, 0, 2, 3}};
-
     public static void main(String[] args) {
+        Checks.endInTime();
         long smallDesks = bytesOf(() -> smallDesks(500));
         long largeDesk = bytesOf(() -> largeDesk(2));
         long largeDeskLong = bytesOf(() -> largeDesk(200));
@@ -30,7 +27,7 @@ public final class RoomTest {
 
     private static void largeDesk(int explorations) {
         OutcomeDesk desk = new OutcomeDesk();
-        for (int[] row : TWENTY_THOUSAND) {
+        for (int[] row : Programs.STATES_20000[2]) {
             desk.add(row[0], row[1], row[2], row[3]);
         }
         for (int i = 0; i < explorations; i++) {
